@@ -352,7 +352,7 @@ public final class DiskRekeying {
             }
             int previous = sectors;
             sectors = newSectors;
-            leaveRekeying();
+            target = NO_KEY;
             closeZone();
             fillWithZeros();
             return previous;
@@ -551,8 +551,6 @@ public final class DiskRekeying {
         }
 
         private void fillWithZeros() {
-            scrambled.clear();
-            expected.clear();
             cache.clear();
             for (int s = 0; s < sectors; s++) {
                 scrambled.set(s, exchange(0, s, ownKey));
@@ -612,16 +610,10 @@ public final class DiskRekeying {
             if (forward && position >= sectors) {
                 ownKey = target;
                 completed++;
-                leaveRekeying();
+                target = NO_KEY;
             } else if (!forward && position <= 0) {
-                leaveRekeying();
+                target = NO_KEY;
             }
-        }
-
-        private void leaveRekeying() {
-            target = NO_KEY;
-            forward = true;
-            position = 0;
         }
 
         /** Counts by zones, not by trying: start and digest would pay dearly for each step. */
@@ -797,7 +789,6 @@ public final class DiskRekeying {
 
         int empty() {
             int previous = length;
-            codes.clear();
             length = 0;
             return previous;
         }

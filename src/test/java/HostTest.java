@@ -10,6 +10,7 @@ public final class HostTest {
         flushInOpenZoneGoingBack();
         failWithoutRekeying();
         failWithJournal();
+        failInTheFirstAndLastZone();
         failWithoutJournal();
         failGoingBack();
         failWithEqualSecrets();
@@ -155,6 +156,28 @@ public final class HostTest {
         CHECKS.due("steps(999)", x.steps(999), 18);
         CHECKS.due("read(1)", x.read(1), 50);
         CHECKS.due("damaged() at the end", x.damaged(), 0);
+    }
+
+    private static void failInTheFirstAndLastZone() {
+        for (int journal = 0; journal <= 1; journal++) {
+            DiskRekeying x = new DiskRekeying();
+            x.addKey(7, 901);
+            x.setJournal(journal);
+            x.write(0, 1);
+            x.write(15, 2);
+            x.flush();
+            x.start(7);
+            x.steps(4 + journal);
+            x.write(0, 9);
+            CHECKS.due("fail() in the first zone", x.fail(), journal == 1 ? 1 : 4);
+            int key = journal == 1 ? 0 : 901;
+            CHECKS.due("stored(0)", x.stored(0), Checks.scramble(1, 0, key));
+            CHECKS.due("stored(3)", x.stored(3), Checks.scramble(0, 3, key));
+            x.steps(3 * (5 + journal) + 4 + journal);
+            CHECKS.due("count(5)", x.count(5), 4);
+            CHECKS.due("fail() in the last zone", x.fail(), journal == 1 ? 0 : 4);
+            CHECKS.due("stored(15)", x.stored(15), Checks.scramble(2, 15, key));
+        }
     }
 
     private static void failWithoutJournal() {

@@ -14,6 +14,7 @@ public final class RekeyingTest {
         stepsBack();
         cacheStaysInRewrittenSectors();
         turnBackAnswers();
+        turnBackAtTheFirstSector();
         turnBackTwice();
         CHECKS.end();
     }
@@ -266,6 +267,24 @@ public final class RekeyingTest {
         x.steps(3);
         CHECKS.due("turnBack() between zones", x.turnBack(), 5);
         CHECKS.due("count(4)", x.count(4), 0);
+    }
+
+    private static void turnBackAtTheFirstSector() {
+        DiskRekeying x = withKeyTwo(3);
+        x.setZone(1);
+        x.start(2);
+        x.steps(3);
+        CHECKS.due("count(3)", x.count(3), 1);
+        CHECKS.due("turnBack() at 1", x.turnBack(), 3);
+        CHECKS.due("count(2) at 1", x.count(2), 2);
+        CHECKS.due("steps(9) from 1", x.steps(9), 3);
+        CHECKS.due("count(2) at 0", x.count(2), -6);
+        CHECKS.due("stored(0)", x.stored(0), Checks.scramble(0, 0, 0));
+        x.start(2);
+        x.steps(3 * 15);
+        CHECKS.due("turnBack() at 15", x.turnBack(), 45);
+        CHECKS.due("turnBack() at 15 forward", x.turnBack(), 3);
+        CHECKS.due("count(2) at 15", x.count(2), 2);
     }
 
     private static void turnBackTwice() {

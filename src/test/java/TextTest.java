@@ -130,6 +130,17 @@ public final class TextTest {
     private static void carryOutStops() {
         carried("s1;f", 0);
         carried("b", 0);
+        DiskRekeying longer = new DiskRekeying();
+        Checks.type(longer, "x;x;x;x");
+        CHECKS.due("carryOut() of four commands", longer.carryOut(), 4);
+        Checks.type(longer, "f");
+        CHECKS.due("carryOut() of one command then", longer.carryOut(), 1);
+        CHECKS.due("count(12)", longer.count(12), 4);
+        Checks.type(longer, "xxx");
+        longer.clearText();
+        Checks.type(longer, "x");
+        CHECKS.due("carryOut() behind clearText()", longer.carryOut(), 1);
+        CHECKS.due("count(12) then", longer.count(12), 5);
         carried("w16=1;f", 0);
         carried("w15=65536", 0);
         carried("w15=65535", 1);
